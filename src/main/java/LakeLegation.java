@@ -1060,23 +1060,13 @@ public final class LakeLegation {
             token = start < length ? tokenWith(bytes[start]) : END;
             if (token == SIGN || token == NO_TOKEN) {
                 end++;
-            } else if (token == WORD) {
-                takeLetters();
-            } else if (token == NUMBER) {
-                takeDigits();
+                return;
             }
-        }
-
-        private void takeLetters() {
-            while (end < length && tokenWith(bytes[end]) == WORD) {
-                end++;
-            }
-        }
-
-        private void takeDigits() {
-            while (end < length && tokenWith(bytes[end]) == NUMBER) {
-                // Held just above what any number may be: a long row of digits must not wrap around.
-                value = Math.min(TOO_MUCH, value * 10 + bytes[end] - '0');
+            while (end < length && tokenWith(bytes[end]) == token) {
+                if (token == NUMBER) {
+                    // Held just above what any number may be: a long row of digits must not wrap around.
+                    value = Math.min(TOO_MUCH, value * 10 + bytes[end] - '0');
+                }
                 end++;
             }
         }

@@ -228,6 +228,10 @@ public final class PromisesTest {
         due("gone 0 = BEYOND", "person 0 = 0", "lake 0 0 = 60", "lake 1 99 = 12", "gone 0 = 30", "set 0 4 1 = 0",
             "gone 0 = 0", "person 2 = 1", "gone 1 = NONE", "gone 2 = BEYOND", "gone -1 = BEYOND", "now 0 = 0");
 
+        begin("15 gone, 16 empty: 240 months on is the last");
+        due("person 0 = 0", "sheet 0 8 12 = 12", "lays 0 = 12", "lake 1 1 = 12", "lake 0 230 = 60", "gone 0 = 240",
+            "empty = 240", "lake 0 231 = 230", "gone 0 = NONE", "empty = NONE");
+
         begin("16 empty");
         due("empty = 0", "person 0 = 0", "lake 0 0 = 60", "lake 1 99 = 12", "empty = 30", "person 1 = 1",
             "empty = 30", "set 0 4 1 = 0", "empty = 4", "set 1 4 1 = 0", "empty = 0", "person 2 = 2", "empty = NONE");
@@ -246,8 +250,8 @@ public final class PromisesTest {
         begin("18 best");
         due("best 10 3 = 0", "person 0 = 0", "lake 0 25 = 60", "best 10 1 = 0", "months 1 = 13", "best 11 1 = 0",
             "best 12 1 = 1", "lake 0 18 = 13", "best 6 1 = 0", "best 7 1 = 1", "rain 1 99 = 7",
-            "best 50 1 = 0", "best 0 1 = BEYOND", "best 100 1 = BEYOND", "best 1 0 = BEYOND", "best 1 61 = BEYOND",
-            "rainOf 1 = 99");
+            "best 50 1 = 0", "best 1 1 = 0", "best 99 60 = 0", "best 0 1 = BEYOND", "best 100 1 = BEYOND",
+            "best 1 0 = BEYOND", "best 1 61 = BEYOND", "rainOf 1 = 99");
         begin("18 best: 99 at most there");
         due("person 2 = 0", "rain 0 98 = 0", "rain 1 0 = 7", "lake 0 21 = 60", "lake 1 0 = 12", "best 99 2 = 1",
             "rain 0 0 = 98", "best 99 2 = 0");
@@ -326,6 +330,14 @@ public final class PromisesTest {
         told("", -1);
         told("   ", -4);
         told("clerks", -1);
+        told("clerka", -1);
+        told("clerkz", -1);
+        told("blerk", -1);
+        told("cler", -1);
+        told("clerk`", -6);
+        told("clerk{", -6);
+        told("clerk rank 1/", -13);
+        told("clerk rank 1:", -13);
         told("Clerk", -1);
         told("clerk clerk", -7);
         told("clerk;", -7);
@@ -344,7 +356,12 @@ public final class PromisesTest {
         told("depth 99999999999999999999", -7);
         told("depth 4294967297", -7);
         told("depth -1", -7);
+        told("dries", -6);
+        told("dries;clerk", -6);
         told("dries 100", -7);
+        told("rain", -5);
+        told("rain;clerk", -5);
+        told("rain 3;clerk", -7);
         told("rain 12 0", -6);
         told("rain 11", -8);
         told("rain 11 100", -9);

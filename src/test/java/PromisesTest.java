@@ -1,13 +1,6 @@
-import java.util.List;
-
 /** Each promise of the document with answers worked out by hand: ordinary calls, the edges, and wrong ones. */
 public final class PromisesTest {
-    private static final List<String> FINDINGS =
-        List.of("BEYOND", "FULL", "KIND", "NONE", "STATE", "MISSING", "SIZE");
-    private static int wrong = 0;
-    private static int asked = 0;
-    private static String promise = "";
-    private static Calls calls = new Calls();
+    private static final Rows ROWS = new Rows();
 
     public static void main(String[] args) {
         lake();
@@ -17,45 +10,19 @@ public final class PromisesTest {
         text();
         sheets();
         images();
-        System.out.println(asked + " calls, " + wrong + " answers not as due");
-        if (wrong != 0) {
-            System.exit(1);
-        }
+        ROWS.end();
     }
 
-    private static void begin(String name) {
-        promise = name;
-        calls = new Calls();
+    private static void begin(String title) {
+        ROWS.begin(title);
     }
 
-    /** Rows such as "lake 0 999 = 60" or "lake 2 0 = BEYOND", in turn on the object that is there. */
     private static void due(String... rows) {
-        for (String row : rows) {
-            String[] halves = row.split(" = ");
-            String[] call = halves[0].split(" ");
-            long[] a = new long[call.length - 1];
-            for (int i = 0; i < a.length; i++) {
-                a[i] = Long.parseLong(call[i + 1]);
-            }
-            judge(row, calls.answer(call[0], a), valueOf(halves[1]));
-        }
+        ROWS.due(rows);
     }
 
     private static void told(String text, long want) {
-        judge("text '" + text + "' = " + want, calls.tell(text), want);
-    }
-
-    private static long valueOf(String answer) {
-        int finding = FINDINGS.indexOf(answer);
-        return finding < 0 ? Long.parseLong(answer) : -1000000001L - finding;
-    }
-
-    private static void judge(String row, long got, long want) {
-        asked++;
-        if (got != want) {
-            wrong++;
-            System.out.println(promise + ": " + row + ", answered " + got);
-        }
+        ROWS.told(text, want);
     }
 
     // ---- the lake
@@ -154,14 +121,14 @@ public final class PromisesTest {
     /** One of each kind, by its number, all of a rank. */
     private static void sixKinds(int rank) {
         for (int kind = 0; kind < 6; kind++) {
-            calls.answer("person", kind);
-            calls.answer("set", kind, 1, rank);
+            ROWS.again(1, "person " + kind);
+            ROWS.again(1, "set " + kind + " 1 " + rank);
         }
     }
 
     private static void loveOfAll(int love) {
         for (int person = 0; person < 6; person++) {
-            calls.answer("set", person, 2, love);
+            ROWS.again(1, "set " + person + " 2 " + love);
         }
     }
 
@@ -199,9 +166,7 @@ public final class PromisesTest {
         begin("11 months: wrote is held to 9999");
         due("person 0 = 0", "set 0 3 9998 = 0", "months 1 = 48", "of 0 3 = 9999", "months 1 = 43", "of 0 3 = 9999");
         begin("11 months: no month above 9999");
-        for (int i = 0; i < 83; i++) {
-            calls.answer("months", 120);
-        }
+        ROWS.again(83, "months 120");
         due("now 0 = 9960", "months 40 = STATE", "now 0 = 9960", "months 38 = 0", "months 2 = STATE",
             "months 121 = BEYOND", "months 1 = 2", "now 0 = 9999", "now 1 = 3", "months 1 = STATE", "status 4 = 3",
             "lake 0 100 = 2", "on 1 0 = 109", "on 240 0 = 2");
@@ -303,9 +268,7 @@ public final class PromisesTest {
         due("feed 2037541989 3 = 3", "wipe = 3", "feed 1919907188 4 = 4", "wipe = 4", "feed 1885698148 2 = 2");
         told("pth 7", -1);
         begin("24 feed: 120 bytes");
-        for (int i = 0; i < 29; i++) {
-            calls.answer("feed", 0x20202020, 4);
-        }
+        ROWS.again(29, "feed 538976288 4");
         due("feed 0 3 = 119", "feed 0 2 = FULL", "feed 0 5 = BEYOND", "count 1 = 119", "feed 0 1 = 120",
             "feed 0 1 = FULL", "wipe = 120", "feed 0 4 = 4", "status 1 = 2");
 
@@ -399,7 +362,7 @@ public final class PromisesTest {
             "sheet 3 16 1 = 1", "write 3 0 32767 = 0", "write 3 0 32768 = 32767", "write 3 0 65536 = -32768",
             "write 3 0 0 = 0", "sheet 3 64 1 = 1", "write 3 0 9223372036854775807 = 0",
             "write 3 0 -9223372036854775808 = 9223372036854775807", "write 3 0 -1000000001 = -9223372036854775808",
-            "write 3 0 0 = BEYOND", "status 0 = 4", "status 5 = 2");
+            "write 3 0 0 = -1000000001", "status 0 = 4", "status 5 = 2");
 
         begin("29 copy");
         due("copy 4 0 0 0 0 = BEYOND", "copy 0 0 -1 0 0 = BEYOND", "copy 0 0 1 0 0 = MISSING", "sheet 0 16 5 = 5",
